@@ -570,7 +570,9 @@ public final class FootQuarrel {
         for (int nights = 0; nights <= 99; nights++) {
             boolean calm = true;
             for (int i = 0; i < street.peopleCount; i++) {
-                calm &= street.angerBehind(i, nights) == 0;
+                if (street.angerBehind(i, nights) > 0) {
+                    calm = false;
+                }
             }
             if (calm) {
                 return answer(nights);
@@ -1633,8 +1635,7 @@ public final class FootQuarrel {
         /** The STEP is done: where it goes on. */
         private int behindStep(Street street, int at) {
             Years years = street.years;
-            int deed = years.deed[at];
-            switch (deed) {
+            switch (years.deed[at]) {
                 case SAY:
                     speak(street, years.one[at], years.other[at]);
                     break;
@@ -1652,6 +1653,12 @@ public final class FootQuarrel {
                         speak(street, drawnOne, drawnOther);
                     }
                     break;
+                case RAIN:
+                    turnWeather(street, true);
+                    break;
+                case DRY:
+                    turnWeather(street, false);
+                    break;
                 case WHEN:
                     return holds(street, at) ? at + 1 : years.partner[at] + 1;
                 case LOOP:
@@ -1660,7 +1667,6 @@ public final class FootQuarrel {
                 case STOP:
                     return years.entries;
                 default:
-                    turnWeather(street, deed == RAIN);
                     break;
             }
             return at + 1;

@@ -109,6 +109,12 @@ public final class DeedTest {
         CHECK.due("SHOUTS of r", q.person(1, 6), 3);
         CHECK.due("told(12)", q.told(12), 6);
         wide(q, "behind six SHOUTS", 10, 10);
+        CHECK.due("lost by a", q.house(0, 3), 3);
+        CHECK.due("lost by b", q.house(1, 3), 3);
+        q.shoutsBy(1, 0);
+        q.say(1, 0);
+        CHECK.due("lost by a, twice as much", q.house(0, 3), 6);
+        CHECK.due("lost by b, twice as much", q.house(1, 3), 6);
     }
 
     private static void noFurtherThanWide() {
@@ -190,6 +196,13 @@ public final class DeedTest {
         CHECK.due("the 20th", q.quarrel(19, 0), 3);
         CHECK.refused(q, "quarrel(20, 0)", q.quarrel(20, 0), 1);
         CHECK.refused(q, "sorry(20)", q.sorry(20), 1);
+        FootQuarrel again = two("", "temper 30 hears 0", "temper 0 hears 9");
+        for (int i = 0; i < 41; i++) {
+            again.say(0, 1);
+            CHECK.due("the latest is not halved", again.quarrel(0, 6), 0);
+            again.sorry(0);
+            CHECK.due("now it is", again.quarrel(0, 6), 1);
+        }
     }
 
     private static void sorry() {

@@ -6,6 +6,7 @@ public final class GameTest {
         oneTurn();
         nothingIsAsGood();
         turnsMatter();
+        replyMatters();
         wrong();
         CHECK.finish();
     }
@@ -65,6 +66,29 @@ public final class GameTest {
         CHECK.fine(odd, "game(0, 1, 1)", odd.game(0, 1, 1), 0);
         CHECK.fine(odd, "game(0, 1, 2)", odd.game(0, 1, 2), -2);
         CHECK.fine(odd, "game(1, 0, 1)", odd.game(1, 0, 1), 2);
+    }
+
+    /** r SHOUTS at once, but by that p is so angry that the reply makes him SHOUT as well. */
+    private static void replyMatters() {
+        FootQuarrel q = two("temper 10 hears 5", "temper 9 hears 5");
+        q.say(0, 1);
+        CHECK.fine(q, "game(0, 1, 1)", q.game(0, 1, 1), 2);
+        CHECK.fine(q, "moveOf(0, 1, 1)", q.moveOf(0, 1, 1), 1);
+        CHECK.fine(q, "game(0, 1, 2)", q.game(0, 1, 2), 0);
+        CHECK.fine(q, "moveOf(0, 1, 2)", q.moveOf(0, 1, 2), 0);
+        // p is about to SHOUT: to make him do it now, when r pays as much, is better than to be silent.
+        FootQuarrel ahead = two("temper 5 hears 5", "temper 9 hears 5");
+        ahead.say(0, 1);
+        ahead.say(1, 0);
+        CHECK.fine(ahead, "game(0, 1, 2)", ahead.game(0, 1, 2), 0);
+        CHECK.fine(ahead, "moveOf(0, 1, 2)", ahead.moveOf(0, 1, 2), 1);
+        CHECK.fine(ahead, "moveOf(0, 1, 1)", ahead.moveOf(0, 1, 1), 0);
+        // The second one has but 1 foot to lose: what is tried must not stay in the tries behind it.
+        FootQuarrel narrow = Check.withStreet("foot 2; house a wide 9; house b wide 1; person p in a temper 30; person r in b temper 0 hears 9;");
+        CHECK.fine(narrow, "game(0, 1, 1)", narrow.game(0, 1, 1), 1);
+        CHECK.fine(narrow, "game(0, 1, 4)", narrow.game(0, 1, 4), 1);
+        CHECK.fine(narrow, "moveOf(0, 1, 3)", narrow.moveOf(0, 1, 3), 0);
+        CHECK.fine(narrow, "game(1, 0, 4)", narrow.game(1, 0, 4), -1);
     }
 
     private static void wrong() {

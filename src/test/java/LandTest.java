@@ -42,6 +42,12 @@ public final class LandTest {
         CHECK.fine(q, "loudest()", q.loudest(), 3);
         q.survey(0);
         CHECK.fine(q, "loser(), surveyed", q.loser(), 0);
+        FootQuarrel one = Check.withStreet("house a wide 9; house b wide 9; person p in a temper 0; person r in b temper 30;");
+        one.say(1, 0);
+        CHECK.fine(one, "loser() by 1 foot", one.loser(), 0);
+        CHECK.fine(one, "loudest(): PERSON 0", one.loudest(), 0);
+        CHECK.fine(one, "began(0): the one QUARREL", one.began(0), 1);
+        CHECK.fine(one, "quarrelsAt(0)", one.quarrelsAt(0), 1);
     }
 
     private static void share() {

@@ -8,6 +8,7 @@ public final class MarkTest {
         takenBack();
         nested();
         acrossStreets();
+        everything();
         notTakenBack();
         CHECK.finish();
     }
@@ -108,6 +109,60 @@ public final class MarkTest {
         empty.undo();
         CHECK.due("told(0) of none", empty.told(0), 0);
         CHECK.due("told(3) of none", empty.told(3), 1);
+    }
+
+    private static String all(FootQuarrel q) {
+        StringBuilder all = new StringBuilder();
+        for (int i = 0; i <= 12; i++) {
+            all.append(q.told(i)).append(' ');
+        }
+        for (int house = 0; house < q.told(0); house++) {
+            for (int i = 0; i < 4; i++) {
+                all.append(q.house(house, i)).append(' ');
+            }
+        }
+        for (int person = 0; person < q.told(1); person++) {
+            for (int i = 0; i < 7; i++) {
+                all.append(q.person(person, i)).append(' ');
+            }
+        }
+        for (int k = 0; k < q.told(2); k++) {
+            for (int i = 0; i < 7; i++) {
+                all.append(q.quarrel(k, i)).append(' ');
+            }
+        }
+        return all.toString();
+    }
+
+    /** By lives that change all there is, and by another STREET. */
+    private static void everything() {
+        String row = "foot 3; calm 6; odds 9; house a wide 9; house b wide 8; house c wide 7; peace b c;"
+                + "person p in a temper 9 hears 8 pay 1; person r in b temper 8 hears 7 voice 6; person s in c temper 3; person t in b voice 7;";
+        FootQuarrel q = Check.withStreet(row);
+        Check.years(q, "loop 9; any; any; sorry; end; night 3; any; any; any; any;");
+        for (int seed = 0; seed < 40; seed++) {
+            q.live(seed);
+            String ahead = all(q);
+            q.mark();
+            q.live(seed + 1);
+            q.rule(seed % 9 + 1);
+            q.peace(1, false);
+            String between = all(q);
+            q.mark();
+            Check.street(q, "foot 9; calm 0; odds 0; house x wide 99; house y wide 98; house z wide 97; person w in y; person v in z temper 0;");
+            q.say(0, 1);
+            q.say(0, 1);
+            String other = all(q);
+            q.mark();
+            Check.street(q, "");
+            q.undo();
+            CHECK.due("as the other STREET was, " + seed, all(q).equals(other), true);
+            CHECK.due("SHOUTS in the other STREET: 1, then 3", q.told(12), 4);
+            q.undo();
+            CHECK.due("as it was between, " + seed, all(q).equals(between), true);
+            q.undo();
+            CHECK.due("as it was ahead, " + seed, all(q).equals(ahead), true);
+        }
     }
 
     private static void notTakenBack() {

@@ -134,6 +134,13 @@ public final class PlacesTest {
             CHECK.refused(q, "fewest, n " + n, q.fewest(1, n), 1);
             CHECK.refused(q, "blame, n " + n, q.blame(1, n), 1);
         }
+        CHECK.fine(q, "ways(0, 2) behind what was refused", q.ways(0, 2), 3);
+        q.told(99);
+        CHECK.fine(q, "blame(0, 2) behind what was refused", q.blame(0, 2), 1);
+        FootQuarrel first = places(1, -1, 0);
+        CHECK.refused(first, "ways, the first below 0", first.ways(0, 1), 5);
+        CHECK.refused(first, "fewest, the first below 0", first.fewest(0, 2), 5);
+        CHECK.refused(first, "blame, the first below 0", first.blame(0, 2), 5);
         CHECK.refused(q, "ways, MISSING", q.ways(1, 1), 2);
         CHECK.refused(q, "fewest, MISSING", q.fewest(1, 1), 2);
         CHECK.refused(q, "blame, MISSING", q.blame(1, 1), 2);

@@ -16,6 +16,7 @@ public final class StreetTextTest {
         signs();
         tokenFaults();
         standFaults();
+        cutTexts();
         nameFaults();
         numberFaults();
         againFaults();
@@ -23,6 +24,7 @@ public final class StreetTextTest {
         firstFault();
         oldStays();
         newTakes();
+        smallBehindLarge();
         CHECK.finish();
     }
 
@@ -213,6 +215,31 @@ public final class StreetTextTest {
         }
     }
 
+    /** What is on the tape behind the first n bytes is not looked at. */
+    private static void cutTexts() {
+        FootQuarrel q = new FootQuarrel();
+        Check.feed(q, "foot 12;");
+        CHECK.refused(q, "cut in a NUMBER", q.street(6), 9);
+        CHECK.due("fault(0)", q.fault(0), 2);
+        CHECK.due("fault(1)", q.fault(1), 6);
+        Check.feed(q, "house ab wide 1;");
+        CHECK.refused(q, "cut in a NAME", q.street(7), 9);
+        CHECK.due("fault(1)", q.fault(1), 7);
+        Check.feed(q, "house stopp wide 1;");
+        CHECK.refused(q, "cut to a WORD that is no NAME", q.street(10), 9);
+        CHECK.due("fault(0)", q.fault(0), 2);
+        CHECK.due("fault(1)", q.fault(1), 6);
+        Check.feed(q, "foot 8;house abcdefghi");
+        CHECK.refused(q, "cut to a NAME of 8 letters", q.street(21), 9);
+        CHECK.due("fault(1)", q.fault(1), 21);
+        Check.feed(q, "foot 00012");
+        CHECK.refused(q, "cut to a NUMBER of 4 digits", q.street(9), 9);
+        CHECK.due("fault(0)", q.fault(0), 2);
+        CHECK.due("fault(1)", q.fault(1), 9);
+        Check.feed(q, "foot 8;$");
+        CHECK.fine(q, "cut ahead of a FAULT", q.street(7), 0);
+    }
+
     private static void nameFaults() {
         CHECK.streetFault("house a wide 1;house a wide 1;", 3, 21);
         CHECK.streetFault("house a wide 1;person a in a;", 3, 22);
@@ -317,7 +344,56 @@ public final class StreetTextTest {
         CHECK.due("person(1, 6) again", q.person(1, 6), 0);
         CHECK.due("person(1, 1) again", q.person(1, 1), 10);
         CHECK.due("person(0, 3) again", q.person(0, 3), 5);
-        CHECK.due("told(12) again", q.told(12), 0);
-        CHECK.due("told(9) again", q.told(9), 0);
+        int[] again = {2, 2, 0, 1, 2, 4, 0, 0, 0, 0, 0, 0, 0};
+        for (int what = 0; what < again.length; what++) {
+            CHECK.fine(q, "told(" + what + ") again", q.told(what), again[what]);
+        }
+        CHECK.refused(q, "no YEARS again", q.live(0), 6);
+    }
+
+    /** Of a large STREET nothing is left in a small one. */
+    private static void smallBehindLarge() {
+        FootQuarrel q = new FootQuarrel();
+        for (int i = 0; i < 2; i++) {
+            StringBuilder large = new StringBuilder();
+            for (char c = 'a'; c <= 'f'; c++) {
+                large.append("house ").append(c).append(" wide 0;");
+            }
+            for (char c = 'm'; c <= 't'; c++) {
+                large.append("person ").append(c).append(" in ").append(c % 2 == 0 ? 'a' : 'b').append(" temper 0 hears 9 voice 9 pay 9;");
+            }
+            CHECK.fine(q, "a large STREET", Check.street(q, large + "peace d c; peace e f;"), 8);
+            CHECK.due("HOUSES without land", q.told(10), 63);
+            CHECK.due("WALLS at PEACE", q.told(9), 20);
+            CHECK.due("neighbours(0)", q.neighbours(0), 0xaa);
+            CHECK.due("dangers(0)", q.dangers(0), 0xaa);
+            CHECK.due("heardBy(7)", q.heardBy(7), 0x7f);
+            CHECK.due("house(1, 2)", q.house(1, 2), 0x55);
+            CHECK.due("say(0, 7)", q.say(0, 7), 6);
+            CHECK.due("loudest()", q.loudest(), 0);
+            CHECK.refused(q, "loser()", q.loser(), 6);
+            CHECK.denied(q, "share(5)", q.share(5), 6);
+            CHECK.due("hireSet(7)", q.hireSet(7), 1);
+            CHECK.due("quiet(0)", q.quiet(0), 0);
+            CHECK.due("quiet(4)", q.quiet(4), 1);
+            q.change(7, 1, 30);
+            q.say(0, 7);
+            CHECK.due("calmIn()", q.calmIn(), 5);
+            CHECK.due("night(1)", q.night(1), 0x80);
+        }
+        CHECK.fine(q, "a small STREET", Check.street(q, "house a wide 3; house b wide 3; person p in a; person r in b;"), 2);
+        CHECK.due("told(8)", q.told(8), 0);
+        CHECK.due("told(9)", q.told(9), 0);
+        CHECK.due("told(10)", q.told(10), 0);
+        CHECK.due("person(0, 4)", q.person(0, 4), 0);
+        CHECK.due("neighbours(0)", q.neighbours(0), 2);
+        CHECK.due("heardBy(0)", q.heardBy(0), 2);
+        CHECK.due("house(0, 2)", q.house(0, 2), 1);
+        CHECK.due("dangers(0)", q.dangers(0), 0);
+        CHECK.due("quiet(0)", q.quiet(0), 1);
+        CHECK.due("calmIn()", q.calmIn(), 0);
+        CHECK.refused(q, "loudest()", q.loudest(), 6);
+        CHECK.refused(q, "hire(0)", q.hire(0), 6);
+        CHECK.fraction(q, "share(0)", q.share(0), 1, 2);
     }
 }

@@ -76,10 +76,12 @@ public final class TrayTest {
         CHECK.denied(q, "tray(1, 0, 61)", q.tray(1, 0, 61), 1);
         CHECK.refused(q, "read(1, 0): still MISSING", q.read(1, 0), 2);
         q.write(3, 5, 77);
+        q.write(3, 0, 78);
         CHECK.denied(q, "tray(3, 3, 61)", q.tray(3, 3, 61), 1);
         CHECK.fine(q, "read(3, 5): as it was", q.read(3, 5), 77);
         q.tray(3, 3, 6);
         CHECK.fine(q, "read(3, 5): 0 again", q.read(3, 5), 0);
+        CHECK.fine(q, "read(3, 0): 0 again", q.read(3, 0), 0);
         CHECK.refused(q, "read(3, 6)", q.read(3, 6), 3);
     }
 

@@ -104,6 +104,9 @@ public final class WouldBeTest {
         CHECK.fine(q, "bestTo(0)", q.bestTo(0), 2);
         q.peace(1, true);
         CHECK.fine(q, "bestTo(0), c at PEACE", q.bestTo(0), 1);
+        q.change(0, 1, 0);
+        q.change(1, 1, 30);
+        CHECK.fine(q, "bestTo(1): PERSON 0", q.bestTo(1), 0);
         q.peace(0, true);
         CHECK.refused(q, "bestTo(0), all at PEACE", q.bestTo(0), 6);
         FootQuarrel none = Check.withStreet("house a wide 0; house b wide 9; person p in b temper 30; person r in a temper 0 hears 9;");
@@ -131,6 +134,9 @@ public final class WouldBeTest {
         CHECK.fine(q, "quiet(1)", q.quiet(1), 0);
         q.peace(1, true);
         CHECK.fine(q, "quiet(1) at PEACE", q.quiet(1), 1);
+        q.change(1, 1, 4);
+        CHECK.fine(q, "quiet(0): the right one would SHOUT", q.quiet(0), 0);
+        q.change(1, 1, 30);
         q.change(0, 1, 4);
         CHECK.fine(q, "quiet(0): the left one would SHOUT", q.quiet(0), 0);
         q.rain(true);
@@ -238,6 +244,13 @@ public final class WouldBeTest {
         CHECK.fine(fewest, "hireSet(0): the fewest", fewest.hireSet(0), 8);
         FootQuarrel least = Check.withStreet(row + "person r in a voice 5 pay 2; person s in a voice 5 pay 2; person t in a voice 5 pay 2;");
         CHECK.fine(least, "hireSet(0): the least as a number", least.hireSet(0), 6);
+        FootQuarrel cheaper = Check.withStreet(row + "person r in a voice 5 pay 2; person s in a voice 5 pay 2; person t in a voice 9 pay 5;");
+        CHECK.fine(cheaper, "hireSet(0): two that are cheaper by 1", cheaper.hireSet(0), 6);
+        FootQuarrel dearer = Check.withStreet(row + "person t in a voice 9 pay 5; person r in a voice 5 pay 2; person s in a voice 5 pay 2;");
+        CHECK.fine(dearer, "hireSet(0): two that are cheaper by 1, behind", dearer.hireSet(0), 12);
+        FootQuarrel zero = Check.withStreet("house a wide 9; house b wide 9; person p in a voice 9 pay 8; person r in b temper 0;");
+        CHECK.fine(zero, "hire(1): PERSON 0", zero.hire(1), 8);
+        CHECK.fine(zero, "hireSet(1): PERSON 0", zero.hireSet(1), 1);
         FootQuarrel free = Check.withStreet(row + "person r in a voice 5; person s in a voice 4; person t in a voice 5; person u in a voice 9 pay 1;");
         CHECK.fine(free, "hire(0): for nothing", free.hire(0), 0);
         CHECK.fine(free, "hireSet(0): who is not heard is not hired", free.hireSet(0), 10);
