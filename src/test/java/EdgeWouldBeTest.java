@@ -41,6 +41,8 @@ public final class EdgeWouldBeTest {
         hireFewest();
         hireLeastNumber();
         hireOfEight();
+        hireInRain();
+        hireWhateverOthersShout();
         allStays();
         CHECK.finish();
     }
@@ -550,6 +552,33 @@ public final class EdgeWouldBeTest {
         CHECK.fine(all, "hireSet(0), the first and the last of seven", all.hireSet(0), 190);
         all.change(7, 1, 0);
         CHECK.fine(all, "hireSet(7), the first of eight", all.hireSet(7), 1);
+    }
+
+    /** "From now on, as rainy as it is." */
+    private static void hireInRain() {
+        FootQuarrel q = Check.withStreet("house a wide 1; house b wide 1; person p in a temper 8 hears 5;"
+                + "person r in b voice 9 pay 1; person s in b voice 7 pay 1; person t in b voice 6;");
+        CHECK.fine(q, "hireSet(0), dry", q.hireSet(0), 2);
+        q.rain(true);
+        // r is 7 LOUD, s 5; t, 4 LOUD, isn't heard.
+        CHECK.fine(q, "hireSet(0) in rain", q.hireSet(0), 6);
+        CHECK.fine(q, "hire(0) in rain", q.hire(0), 2);
+        q.change(0, 1, 12);
+        CHECK.refused(q, "hire(0) in rain: 7 and 5 are as much as 12", q.hire(0), 6);
+        q.change(3, 3, 7);
+        CHECK.fine(q, "hireSet(0) in rain: 7, 5 and 5", q.hireSet(0), 14);
+    }
+
+    /** "(what he SHOUTS, and that others SHOUT, does not matter)"; "once each, one behind the other, by numbers". */
+    private static void hireWhateverOthersShout() {
+        FootQuarrel q = Check.withStreet("foot 9; house a wide 1; house b wide 1; person p in a temper 0 hears 9;"
+                + "person r in b temper 0 hears 9 voice 9 pay 2; person s in b temper 0 hears 9 voice 1 pay 1;");
+        CHECK.due("SHOUTS by r", q.shoutsBy(1, 0), 6);
+        CHECK.fine(q, "hireSet(0)", q.hireSet(0), 4);
+        q.change(0, 1, 9);
+        CHECK.fine(q, "hireSet(0): 9 and 1", q.hireSet(0), 6);
+        q.change(0, 1, 10);
+        CHECK.refused(q, "hire(0): nobody says anything twice", q.hire(0), 6);
     }
 
     /** What would be leaves all as it is. */
