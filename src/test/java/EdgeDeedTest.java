@@ -247,6 +247,8 @@ public final class EdgeDeedTest {
         CHECK.due("p behind the 6th, his own", q.person(0, 5), 0);
         CHECK.due("r isn't told the 6th", q.person(1, 5), 0);
         CHECK.due("the WALL", q.wall(0), 2);
+        CHECK.due("lost by p's HOUSE", q.house(0, 3), 3);
+        CHECK.due("lost by r's HOUSE", q.house(1, 3), 3);
         CHECK.due("one thing was said", q.told(11), 1);
         CHECK.fine(q, "six more", q.say(1, 0), 6);
         CHECK.due("in all", q.told(12), 12);
@@ -545,6 +547,7 @@ public final class EdgeDeedTest {
     private static void changeNumbers() {
         FootQuarrel q = two("", "", "");
         for (int what : new int[] {-1, 0, 5, 6, Integer.MAX_VALUE, Integer.MIN_VALUE}) {
+            CHECK.denied(q, "change(0, " + what + ", 0)", q.change(0, what, 0), 1);
             CHECK.denied(q, "change(0, " + what + ", 1)", q.change(0, what, 1), 1);
         }
         for (int none : new int[] {-1, 2, Integer.MAX_VALUE, Integer.MIN_VALUE}) {

@@ -16,6 +16,8 @@ public final class EdgeGameTest {
         moveIfBetter();
         moveIfAsGood();
         moveIfWorse();
+        moveByReply();
+        triesStayApart();
         inRain();
         nothingIsDone();
         CHECK.finish();
@@ -160,6 +162,61 @@ public final class EdgeGameTest {
     private static void moveIfWorse() {
         FootQuarrel q = Check.withStreet("foot 2; house a wide 50; house b wide 1; person p in a temper 0 hears 9; person r in b temper 0 hears 9;");
         moves(q, "to say it costs 1 foot", 0, 1, 0);
+    }
+
+    /** "by best play": what the other one replies decides, at its own turn. */
+    private static void moveByReply() {
+        // r SHOUTS at once, but by that p is so ANGRY that the reply makes him SHOUT as well.
+        FootQuarrel q = two("foot 2;", "temper 10 hears 5", "temper 9 hears 5");
+        q.say(0, 1);
+        games(q, "p is ANGRY by the SHOUT", 0, 1, 0, 2, 0);
+        moves(q, "p is ANGRY by the SHOUT", 0, 1, 1, 0);
+        // p is about to SHOUT: to have it done now, when r pays as much, is better than to be silent.
+        FootQuarrel ahead = two("foot 2;", "temper 5 hears 5", "temper 9 hears 5");
+        ahead.say(0, 1);
+        ahead.say(1, 0);
+        games(ahead, "p is about to SHOUT", 0, 1, 0, 0, 0);
+        moves(ahead, "p is about to SHOUT", 0, 1, 0, 1);
+    }
+
+    /** One try leaves nothing behind for the next one: ANGER, land of both. */
+    private static void triesStayApart() {
+        FootQuarrel narrow = Check.withStreet("foot 2; house a wide 9; house b wide 1; person p in a temper 30; person r in b temper 0 hears 9;");
+        games(narrow, "b has 1 foot", 0, 1, 0, 1, 1, 1, 1);
+        games(narrow, "b has 1 foot, r begins", 1, 0, 0, 0, -1, -1, -1);
+        for (int angerOfP = 0; angerOfP < 3; angerOfP++) {
+            for (int angerOfR = 0; angerOfR < 3; angerOfR++) {
+                FootQuarrel q = two("foot 2;", "temper 11 hears 5", "temper 12 hears 5");
+                for (int i = 0; i < angerOfP; i++) {
+                    q.say(1, 0);
+                }
+                for (int i = 0; i < angerOfR; i++) {
+                    q.say(0, 1);
+                }
+                for (int turns = 0; turns <= 4; turns++) {
+                    CHECK.fine(q, "game of " + turns + " by ANGER " + 5 * angerOfP + ", " + 5 * angerOfR, q.game(0, 1, turns),
+                            played(q, turns, 0, 0));
+                }
+            }
+        }
+    }
+
+    /** The GAME by MARKS: the bits of said are the turns on which something is said. */
+    private static int played(FootQuarrel q, int turns, int turn, int said) {
+        if (turn < turns) {
+            int silent = played(q, turns, turn + 1, said);
+            int spoken = played(q, turns, turn + 1, said | 1 << turn);
+            return turn % 2 == 0 ? Math.max(silent, spoken) : Math.min(silent, spoken);
+        }
+        q.mark();
+        for (int i = 0; i < turns; i++) {
+            if ((said >> i & 1) == 1) {
+                q.say(i % 2, 1 - i % 2);
+            }
+        }
+        int gain = q.house(0, 0) - 50;
+        q.undo();
+        return gain;
     }
 
     private static void inRain() {

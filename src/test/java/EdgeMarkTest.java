@@ -14,6 +14,7 @@ public final class EdgeMarkTest {
         yearsAreKept();
         emptyStreetIsKept();
         otherStreet();
+        othersBetween();
         quarrelsAreKept();
         everyDeedIsTakenBack();
         whatIsNoStreetStays();
@@ -169,30 +170,56 @@ public final class EdgeMarkTest {
         CHECK.fine(q, "undo", q.undo(), 0);
         CHECK.due("the first one", Scene.state(q).equals(state), true);
         CHECK.fine(q, "its YEARS", q.live(0), 1);
-        CHECK.fine(q, "its NAMES", Check.years(q, "say s r;when wide c > 0;end;"), 2);
+        CHECK.fine(q, "its NAMES", Check.years(q, "say s r;say p r;when wide a > 0;when wide b > 0;end;end;when wide c > 0;end;"), 5);
+    }
+
+    /** Several other STREETS, larger ones, came in between. */
+    private static void othersBetween() {
+        FootQuarrel q = row();
+        q.say(0, 1);
+        q.say(2, 1);
+        String state = Scene.state(q);
+        q.mark();
+        for (int i = 0; i < 3; i++) {
+            Check.street(q, "foot 9; house u wide 1; house v wide 2; house w wide 3; house x wide 4; person k in x temper 1 hears 1 voice 1 pay 1;"
+                    + "person l in w temper 0 hears 9 voice 1 pay 1; person m in v temper 1 hears 0 voice 1 pay 1; person n in v;");
+            q.change(2, 3, 9);
+            q.say(2, 1);
+            CHECK.due("a SHOUT", q.told(12), 1);
+        }
+        CHECK.fine(q, "undo", q.undo(), 0);
+        CHECK.due("the first one", Scene.state(q).equals(state), true);
+        CHECK.fine(q, "its NAMES", Check.years(q, "say s r;say p r;when wide a > 0;when wide b > 0;end;end;when wide c > 0;end;"), 5);
+        CHECK.yearsFault(q, "when wide x > 0;end;", 3, 10);
     }
 
     /** The latest 20 QUARRELS, when the row of them was full at the MARK and went on behind it. */
     private static void quarrelsAreKept() {
         for (int ahead : new int[] {0, 1, 19, 20, 21, 33}) {
-            FootQuarrel q = row();
+            FootQuarrel q = Check.withStreet("foot 3; house a wide 9; house b wide 99; house c wide 9; person p in a temper 30 hears 0;"
+                    + "person r in b temper 0 hears 9; person s in c temper 30 hears 0;");
             for (int i = 0; i < ahead; i++) {
                 q.say(i % 2 * 2, 1);
                 q.night(1);
             }
             int kept = q.told(2);
             q.mark();
-            for (int i = 0; i < 7; i++) {
-                q.say(0, 1);
+            // Others, by another FOOT, that are heard back.
+            q.rule(7);
+            q.change(0, 1, 0);
+            q.change(0, 2, 9);
+            for (int i = 0; i < 22; i++) {
+                q.say(1, 0);
             }
             q.sorry(0);
             q.sorry(6);
             q.undo();
             CHECK.due("QUARRELS", q.told(2), kept);
             for (int k = 0; k < kept; k++) {
-                CHECK.due("the DAY of QUARREL " + k + " of " + ahead, q.quarrel(k, 0), ahead - 1 - k);
-                CHECK.due("who said it", q.quarrel(k, 2), (ahead - 1 - k) % 2 * 2);
-                CHECK.due("not halved", q.quarrel(k, 6), 0);
+                int[] want = {ahead - 1 - k, (ahead - 1 - k) % 2, (ahead - 1 - k) % 2 * 2, 1, 1, (ahead - 1 - k) % 2 == 0 ? 3 : -3, 0};
+                for (int what = 0; what < 7; what++) {
+                    CHECK.due("quarrel(" + k + ", " + what + ") of " + ahead, q.quarrel(k, what), want[what]);
+                }
             }
         }
     }

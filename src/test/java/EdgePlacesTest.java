@@ -252,6 +252,13 @@ public final class EdgePlacesTest {
         refusedAll(q, "too few, 13: 1", 0, 13, 1);
         refusedAll(q, "too few, one below 0: 3", 0, 3, 3);
         refusedAll(q, "one below 0, no way: 5", 0, 2, 5);
+        q.write(0, 0, 9);
+        q.ways(4, 0);
+        CHECK.fine(q, "ways behind what was refused", q.ways(0, 2), 3);
+        q.ways(4, 0);
+        CHECK.fine(q, "blame behind what was refused", q.blame(0, 2), 1);
+        q.ways(4, 0);
+        CHECK.fine(q, "fewest behind what was refused", q.fewest(0, 2), 0);
     }
 
     private static FootQuarrel row(int walls) {

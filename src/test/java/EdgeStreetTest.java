@@ -8,6 +8,7 @@ public final class EdgeStreetTest {
 
     public static void main(String[] args) {
         textLength();
+        textEndsInToken();
         emptyText();
         firstBytes();
         bytesInside();
@@ -35,6 +36,7 @@ public final class EdgeStreetTest {
         firstFault();
         leastKind();
         takenIsNew();
+        takenIsNewAgain();
         CHECK.finish();
     }
 
@@ -62,6 +64,35 @@ public final class EdgeStreetTest {
         CHECK.refused(last, "a FAULT in the last of 900 bytes", last.street(900), 9);
         CHECK.due("fault(0)", last.fault(0), 1);
         CHECK.due("fault(1)", last.fault(1), 899);
+        for (String end : new String[] {"foot", "foot 1", "foot <", "abcdefghi"}) {
+            FootQuarrel full = new FootQuarrel();
+            Check.feed(full, Check.times(" ", 900 - end.length()) + end);
+            CHECK.refused(full, "900 bytes that end with " + end, full.street(900), 9);
+            CHECK.due("fault(0)", full.fault(0), 2);
+            CHECK.due("fault(1)", full.fault(1), end.startsWith("foot") && !end.endsWith("<") ? 900 : end.endsWith("<") ? 899 : 891);
+        }
+    }
+
+    /** What stands on the tape behind the first n bytes is no part of the text. */
+    private static void textEndsInToken() {
+        cut("foot 12;", 6, 2, 6);
+        cut("foot 00012;", 9, 2, 9);
+        cut("house stopp wide 1;", 10, 2, 6);
+        cut("house abcdefghi wide 1;", 14, 2, 14);
+        cut("footing 1;", 4, 2, 4);
+        cut("foot 1;$", 8, 1, 7);
+        FootQuarrel q = new FootQuarrel();
+        Check.feed(q, "foot 8;foot 9;$");
+        CHECK.fine(q, "cut ahead of FAULTS", q.street(7), 0);
+        CHECK.due("FOOT", q.told(3), 8);
+    }
+
+    private static void cut(String text, int n, int kind, int place) {
+        FootQuarrel q = new FootQuarrel();
+        Check.feed(q, text);
+        CHECK.refused(q, "the first " + n + " of " + text, q.street(n), 9);
+        CHECK.due("fault(0) of " + text, q.fault(0), kind);
+        CHECK.due("fault(1) of " + text, q.fault(1), place);
     }
 
     /** "STREET: {PART}", no PART at all, too. */
@@ -505,5 +536,36 @@ public final class EdgeStreetTest {
         CHECK.due("no PEACE", q.told(9), 0);
         CHECK.due("nothing was said", q.told(11), 0);
         CHECK.due("no SHOUTS", q.told(12), 0);
+    }
+
+    /** Whatever became of STREETS ahead, large and small ones, one that is taken is as in a new object. */
+    private static void takenIsNewAgain() {
+        String large = houses(6) + people(8) + "peace he hf;";
+        String small = "house x wide 2;house y wide 3;person z in x;person w in y;";
+        FootQuarrel q = new FootQuarrel();
+        for (int i = 0; i < 5; i++) {
+            CHECK.fine(q, "a large STREET", Check.street(q, large), 8);
+            CHECK.due("as a new one", Scene.state(q).equals(Scene.state(Check.withStreet(large))), true);
+            for (int person = 0; person < 8; person++) {
+                q.change(person, 1, person % 2 * 30);
+                q.change(person, 2, 9);
+                q.change(person, 3, 9);
+                q.change(person, 4, 9);
+            }
+            q.rule(9);
+            q.say(1, 0);
+            q.say(0, 1);
+            q.night(i + 1);
+            q.rain(true);
+            q.peace(1, true);
+            CHECK.due("a QUARREL was", q.told(2), 1);
+            if (i % 2 == 0) {
+                CHECK.fine(q, "a small STREET", Check.street(q, small), 2);
+                CHECK.due("as a new one", Scene.state(q).equals(Scene.state(Check.withStreet(small))), true);
+                q.change(1, 1, 0);
+                q.say(0, 1);
+                q.night(3);
+            }
+        }
     }
 }

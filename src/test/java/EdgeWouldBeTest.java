@@ -433,6 +433,12 @@ public final class EdgeWouldBeTest {
             q.say(0, 1);
             CHECK.fine(q, "calmIn() of 9 by " + calm, q.calmIn(), (9 + calm - 1) / calm);
         }
+        FootQuarrel eight = oneAndSeven("voice 9", "temper 30");
+        CHECK.fine(eight, "calmIn() of eight who aren't ANGRY", eight.calmIn(), 0);
+        eight.say(0, 7);
+        CHECK.fine(eight, "calmIn() of the last of eight", eight.calmIn(), 5);
+        Check.street(eight, "house a wide 1; person p in a;");
+        CHECK.fine(eight, "calmIn() of one in another STREET", eight.calmIn(), 0);
         FootQuarrel most = two("calm 1;", "voice 6", "temper 30 hears 9");
         for (int i = 0; i < 5; i++) {
             most.say(0, 1);
