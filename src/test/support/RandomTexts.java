@@ -59,14 +59,22 @@ final class RandomTexts {
         boolean areTouchy = draws.nextInt(3) > 0;
         for (int i = 0; i < people; i++) {
             text.append("person p").append((char) ('a' + i)).append(" in h").append(letter(houses));
-            text.append(" temper ").append(areTouchy ? pick(0, 12) : pick(0, 30));
-            text.append(" hears ").append(areTouchy ? pick(3, 9) : pick(0, 9));
-            text.append(" voice ").append(areTouchy ? pick(3, 9) : pick(1, 9));
-            text.append(" pay ").append(draws.nextBoolean() ? pick(0, 3) : pick(0, 99)).append(";");
+            trait(" temper ", areTouchy ? pick(0, 12) : pick(0, 30));
+            trait(" hears ", areTouchy ? pick(3, 9) : pick(0, 9));
+            trait(" voice ", areTouchy ? pick(3, 9) : pick(1, 9));
+            trait(" pay ", draws.nextBoolean() ? pick(0, 3) : pick(0, 99));
+            text.append(";");
         }
         if (houses > 1 && draws.nextInt(4) == 0) {
             int wall = draws.nextInt(houses - 1);
             text.append("peace h").append((char) ('a' + wall)).append(" h").append((char) ('a' + wall + 1)).append(";");
+        }
+    }
+
+    /** Seldom it isn't told. */
+    private void trait(String word, int much) {
+        if (draws.nextInt(8) > 0) {
+            text.append(word).append(much);
         }
     }
 
